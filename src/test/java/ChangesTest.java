@@ -277,6 +277,9 @@ public final class ChangesTest {
         CHECK.argument("P14 0", x, () -> x.spendExtra(0));
         CHECK.argument("P14 negative", x, () -> x.spendExtra(LOW));
         CHECK.argument("P14 great", x, () -> x.spendExtra(10000000));
+        LoanSchedule six = Check.with("loans;open 7 6 1;open 6 5 1;open 5 4 1;open 4 3 1;open 3 2 1;open 2 1 1;");
+        CHECK.due("P14 six loans", six.spendExtra(100), 27);
+        CHECK.due("P14 six entries", Check.book(six), " 5:2+0 4:3+0 3:4+0 2:5+0 1:6+0 0:7+0");
         CHECK.due("P14 no loans", Check.with("loans;").spendExtra(5), 0);
     }
 }

@@ -80,6 +80,12 @@ public final class LoansAndBookTest {
         CHECK.due("P31 one month", y.amountDue(2), 101);
         CHECK.due("P31 as the payment", y.pay(2), 101);
         CHECK.due("P32 its interest", y.interestSoFar(2), 1);
+        // 2, 2 and 1: the whole is less than the installment, and a month is left besides
+        LoanSchedule w = Check.with("loans;open 5 0 4;pay 0;pay 0;");
+        CHECK.due("P27 two left", w.monthsLeft(0), 2);
+        CHECK.due("P31 less than the installment", w.amountDue(0), 1);
+        CHECK.due("P31 paid", w.pay(0), 1);
+        CHECK.due("P23 closed before its months end", Check.loan(w, 0), "5 0 0 0 0 0 0 5 3 0");
         // a skipped month costs interest, but is no payment
         LoanSchedule z = Check.with("loans;open 10000 1200 5;skip 0;skip 0;pay 0;skip 0;");
         CHECK.due("P32 all months", z.interestSoFar(0), 100 + 101 + 102 + 82);

@@ -319,6 +319,8 @@ public final class PredictionsTest {
         CHECK.due("P59 at once", x.budgetMonths(1010, true), 1);
         CHECK.due("P60 at once", x.budgetInterest(1010, true), 10);
         CHECK.due("P59 not at once", x.budgetMonths(1009, true), 2);
+        x.pay(0);
+        CHECK.due("P60 only what is to come", x.budgetInterest(341, true), 11);
         LoanSchedule y = Check.with("loans;open 10 0 120;");
         CHECK.due("P59 before the months end", y.budgetMonths(1, true), 10);
         CHECK.due("P59 three a month", y.budgetMonths(3, true), 4);

@@ -94,6 +94,9 @@ public final class ScriptTest {
         CHECK.due("P5 keeps the plan", Check.plan(x), before);
         CHECK.due("P5 keeps the undo", x.undoCount(), 1);
         CHECK.due("P5 keeps the report", x.reportByte(0), (int) '2');
+        Check.run(x, "loans;repeat 2(repeat 2(");
+        CHECK.due("P5 behind an error inside repeats", Check.run(x, "loans;all;)"), -1);
+        CHECK.due("P5 its offset", x.scriptErrorOffset(), 10);
         CHECK.due("P5 empty", x.runScript(), -1);
         CHECK.due("P5 empty: error", x.scriptErrorKind() * 1000 + x.scriptErrorOffset(), 1000);
     }
@@ -123,6 +126,7 @@ public final class ScriptTest {
         bad("loans;^ALL;", 1);
         bad("loans;^al;", 1);
         bad("loans;^alla;", 1);
+        bad("loans;^allz;", 1);
         bad("loans;^\tall;", 1);
         bad("loans;^\rall;", 1);
         bad("loans;^\u00e1ll;", 1);
