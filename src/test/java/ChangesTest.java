@@ -29,20 +29,20 @@ public final class ChangesTest {
         CHECK.due("P6 smallest loan", Check.loan(x, 1), "1 1 0 1 1 0 0 0 0 0");
         CHECK.due("P6 greatest", x.openLoan(9999999, 3000, 120), 2);
         CHECK.due("P6 greatest loan", Check.loan(x, 2), "9999999 9999999 3000 120 263618 0 0 0 0 0");
-        CHECK.argument("P6 principal 0", x, () -> x.openLoan(0, 0, 1));
-        CHECK.argument("P6 principal negative", x, () -> x.openLoan(LOW, 0, 1));
-        CHECK.argument("P6 principal great", x, () -> x.openLoan(10000000, 0, 1));
-        CHECK.argument("P6 rate negative", x, () -> x.openLoan(5, -1, 1));
-        CHECK.argument("P6 rate great", x, () -> x.openLoan(5, 3001, 1));
-        CHECK.argument("P6 months 0", x, () -> x.openLoan(5, 0, 0));
-        CHECK.argument("P6 months great", x, () -> x.openLoan(5, 0, 121));
+        CHECK.argument("P6 principal 0", () -> x.openLoan(0, 0, 1));
+        CHECK.argument("P6 principal negative", () -> x.openLoan(LOW, 0, 1));
+        CHECK.argument("P6 principal great", () -> x.openLoan(10000000, 0, 1));
+        CHECK.argument("P6 rate negative", () -> x.openLoan(5, -1, 1));
+        CHECK.argument("P6 rate great", () -> x.openLoan(5, 3001, 1));
+        CHECK.argument("P6 months 0", () -> x.openLoan(5, 0, 0));
+        CHECK.argument("P6 months great", () -> x.openLoan(5, 0, 121));
         CHECK.due("P6 fourth", x.openLoan(5, 0, 5), 3);
         CHECK.due("P6 fifth", x.openLoan(5, 0, 5), 4);
         CHECK.due("P6 sixth", x.openLoan(5, 0, 5), 5);
-        CHECK.impossible("P6 seventh", x, () -> x.openLoan(5, 0, 5));
-        CHECK.argument("P6 the argument first", x, () -> x.openLoan(0, 0, 5));
+        CHECK.impossible("P6 seventh", () -> x.openLoan(5, 0, 5));
+        CHECK.argument("P6 the argument first", () -> x.openLoan(0, 0, 5));
         x.pay(1);
-        CHECK.impossible("P6 a closed one counts", x, () -> x.openLoan(5, 0, 5));
+        CHECK.impossible("P6 a closed one counts", () -> x.openLoan(5, 0, 5));
         CHECK.due("P6 no entry of the book", x.entryCount(), 1);
     }
 
@@ -89,11 +89,11 @@ public final class ChangesTest {
         CHECK.due("P7 whole book", Check.book(x), " 0:339+3 0:341+8 0:341+10");
         CHECK.due("P7 other loan", Check.loan(x, 1), "60 60 0 2 30 0 0 0 0 0");
         CHECK.due("P7 undoCount", x.undoCount(), 4);
-        CHECK.impossible("P7 closed", x, () -> x.pay(0));
-        CHECK.index("P7 -1", x, () -> x.pay(-1));
-        CHECK.index("P7 2", x, () -> x.pay(2));
-        CHECK.index("P7 lowest", x, () -> x.pay(LOW));
-        CHECK.index("P7 greatest", x, () -> x.pay(BIG));
+        CHECK.impossible("P7 closed", () -> x.pay(0));
+        CHECK.index("P7 -1", () -> x.pay(-1));
+        CHECK.index("P7 2", () -> x.pay(2));
+        CHECK.index("P7 lowest", () -> x.pay(LOW));
+        CHECK.index("P7 greatest", () -> x.pay(BIG));
     }
 
     private static void payAll() {
@@ -149,16 +149,16 @@ public final class ChangesTest {
 
     private static void payExtraRefused() {
         LoanSchedule x = Check.with("loans;open 100 0 4;open 5 0 1;pay 1;");
-        CHECK.argument("P9 amount 0", x, () -> x.payExtra(0, 0, true));
-        CHECK.argument("P9 amount negative", x, () -> x.payExtra(0, -1, false));
-        CHECK.argument("P9 amount great", x, () -> x.payExtra(0, 10000000, false));
-        CHECK.impossible("P9 more than the balance", x, () -> x.payExtra(0, 101, true));
-        CHECK.impossible("P9 much more", x, () -> x.payExtra(0, 9999999, false));
-        CHECK.impossible("P9 closed", x, () -> x.payExtra(1, 1, false));
-        CHECK.argument("P9 the argument first", x, () -> x.payExtra(1, 0, false));
-        CHECK.index("P9 -1", x, () -> x.payExtra(-1, 1, true));
-        CHECK.index("P9 2", x, () -> x.payExtra(2, 1, true));
-        CHECK.index("P9 the index first", x, () -> x.payExtra(2, 0, true));
+        CHECK.argument("P9 amount 0", () -> x.payExtra(0, 0, true));
+        CHECK.argument("P9 amount negative", () -> x.payExtra(0, -1, false));
+        CHECK.argument("P9 amount great", () -> x.payExtra(0, 10000000, false));
+        CHECK.impossible("P9 more than the balance", () -> x.payExtra(0, 101, true));
+        CHECK.impossible("P9 much more", () -> x.payExtra(0, 9999999, false));
+        CHECK.impossible("P9 closed", () -> x.payExtra(1, 1, false));
+        CHECK.argument("P9 the argument first", () -> x.payExtra(1, 0, false));
+        CHECK.index("P9 -1", () -> x.payExtra(-1, 1, true));
+        CHECK.index("P9 2", () -> x.payExtra(2, 1, true));
+        CHECK.index("P9 the index first", () -> x.payExtra(2, 0, true));
     }
 
     private static void skipMonth() {
@@ -183,19 +183,19 @@ public final class ChangesTest {
         for (int i = 1; i <= 6; i++) {
             CHECK.due("P10 skip " + i, x.skipMonth(0), 0);
         }
-        CHECK.impossible("P10 the seventh", x, () -> x.skipMonth(0));
+        CHECK.impossible("P10 the seventh", () -> x.skipMonth(0));
         x.pay(0);
-        CHECK.impossible("P10 the seventh behind a payment", x, () -> x.skipMonth(0));
-        CHECK.impossible("P10 closed", x, () -> x.skipMonth(1));
-        CHECK.impossible("P10 too great", x, () -> x.skipMonth(2));
+        CHECK.impossible("P10 the seventh behind a payment", () -> x.skipMonth(0));
+        CHECK.impossible("P10 closed", () -> x.skipMonth(1));
+        CHECK.impossible("P10 too great", () -> x.skipMonth(2));
         // 9756096 grows by 243902 to 9999998, 9756097 by 243902 to 9999999
         CHECK.due("P10 just less", x.skipMonth(3), 243902);
         CHECK.due("P10 just as great", x.skipMonth(4), 243902);
         CHECK.due("P10 its balance", x.balance(4), 9999999);
         LoanSchedule y = Check.with("loans;open 9756098 3000 9;");
-        CHECK.impossible("P10 one too great", y, () -> y.skipMonth(0));
-        CHECK.index("P10 -1", x, () -> x.skipMonth(-1));
-        CHECK.index("P10 5", x, () -> x.skipMonth(5));
+        CHECK.impossible("P10 one too great", () -> y.skipMonth(0));
+        CHECK.index("P10 -1", () -> x.skipMonth(-1));
+        CHECK.index("P10 5", () -> x.skipMonth(5));
     }
 
     private static void changeRate() {
@@ -207,32 +207,32 @@ public final class ChangesTest {
         CHECK.due("P11 dearer", x.installment(0) > 335, true);
         CHECK.due("P11 undoCount", x.undoCount(), 3);
         CHECK.due("P11 no entry", x.entryCount(), 2);
-        CHECK.argument("P11 negative", x, () -> x.changeRate(0, -1));
-        CHECK.argument("P11 great", x, () -> x.changeRate(0, 3001));
-        CHECK.impossible("P11 closed", x, () -> x.changeRate(1, 5));
-        CHECK.argument("P11 the argument first", x, () -> x.changeRate(1, 3001));
-        CHECK.index("P11 -1", x, () -> x.changeRate(-1, 5));
-        CHECK.index("P11 2", x, () -> x.changeRate(2, 5));
-        CHECK.index("P11 the index first", x, () -> x.changeRate(2, -5));
+        CHECK.argument("P11 negative", () -> x.changeRate(0, -1));
+        CHECK.argument("P11 great", () -> x.changeRate(0, 3001));
+        CHECK.impossible("P11 closed", () -> x.changeRate(1, 5));
+        CHECK.argument("P11 the argument first", () -> x.changeRate(1, 3001));
+        CHECK.index("P11 -1", () -> x.changeRate(-1, 5));
+        CHECK.index("P11 2", () -> x.changeRate(2, 5));
+        CHECK.index("P11 the index first", () -> x.changeRate(2, -5));
     }
 
     private static void extendTerm() {
         LoanSchedule x = Check.with("loans;open 120 0 60;open 5 0 1;pay 1;open 1000 1300 3;pay 2;");
         CHECK.due("P12 by 60", x.extendTerm(0, 60), 1);
         CHECK.due("P12 months", x.monthsLeft(0), 120);
-        CHECK.impossible("P12 beyond 120", x, () -> x.extendTerm(0, 1));
+        CHECK.impossible("P12 beyond 120", () -> x.extendTerm(0, 1));
         CHECK.due("P12 by 1", x.extendTerm(2, 1), x.installmentFor(2, 3));
         CHECK.due("P12 behind it", Check.loan(x, 2), "1000 669 1300 3 228 100000 10 341 1 0");
         CHECK.due("P12 undoCount", x.undoCount(), 3);
-        CHECK.argument("P12 0", x, () -> x.extendTerm(2, 0));
-        CHECK.argument("P12 -1", x, () -> x.extendTerm(2, -1));
-        CHECK.argument("P12 61", x, () -> x.extendTerm(2, 61));
-        CHECK.argument("P12 greatest", x, () -> x.extendTerm(0, BIG));
-        CHECK.impossible("P12 closed", x, () -> x.extendTerm(1, 1));
-        CHECK.argument("P12 the argument first", x, () -> x.extendTerm(1, 61));
-        CHECK.index("P12 -1", x, () -> x.extendTerm(-1, 1));
-        CHECK.index("P12 3", x, () -> x.extendTerm(3, 1));
-        CHECK.index("P12 the index first", x, () -> x.extendTerm(3, 0));
+        CHECK.argument("P12 0", () -> x.extendTerm(2, 0));
+        CHECK.argument("P12 -1", () -> x.extendTerm(2, -1));
+        CHECK.argument("P12 61", () -> x.extendTerm(2, 61));
+        CHECK.argument("P12 greatest", () -> x.extendTerm(0, BIG));
+        CHECK.impossible("P12 closed", () -> x.extendTerm(1, 1));
+        CHECK.argument("P12 the argument first", () -> x.extendTerm(1, 61));
+        CHECK.index("P12 -1", () -> x.extendTerm(-1, 1));
+        CHECK.index("P12 3", () -> x.extendTerm(3, 1));
+        CHECK.index("P12 the index first", () -> x.extendTerm(3, 0));
     }
 
     private static void refinance() {
@@ -244,15 +244,15 @@ public final class ChangesTest {
         CHECK.due("P13 months", x.monthsLeft(0), 120);
         CHECK.due("P13 undoCount", x.undoCount(), 4);
         CHECK.due("P13 no entry", x.entryCount(), 2);
-        CHECK.argument("P13 rate negative", x, () -> x.refinance(0, -1, 5));
-        CHECK.argument("P13 rate great", x, () -> x.refinance(0, 3001, 5));
-        CHECK.argument("P13 months 0", x, () -> x.refinance(0, 5, 0));
-        CHECK.argument("P13 months great", x, () -> x.refinance(0, 5, 121));
-        CHECK.impossible("P13 closed", x, () -> x.refinance(1, 5, 5));
-        CHECK.argument("P13 the argument first", x, () -> x.refinance(1, 5, 0));
-        CHECK.index("P13 -1", x, () -> x.refinance(-1, 5, 5));
-        CHECK.index("P13 2", x, () -> x.refinance(2, 5, 5));
-        CHECK.index("P13 the index first", x, () -> x.refinance(2, -1, 0));
+        CHECK.argument("P13 rate negative", () -> x.refinance(0, -1, 5));
+        CHECK.argument("P13 rate great", () -> x.refinance(0, 3001, 5));
+        CHECK.argument("P13 months 0", () -> x.refinance(0, 5, 0));
+        CHECK.argument("P13 months great", () -> x.refinance(0, 5, 121));
+        CHECK.impossible("P13 closed", () -> x.refinance(1, 5, 5));
+        CHECK.argument("P13 the argument first", () -> x.refinance(1, 5, 0));
+        CHECK.index("P13 -1", () -> x.refinance(-1, 5, 5));
+        CHECK.index("P13 2", () -> x.refinance(2, 5, 5));
+        CHECK.index("P13 the index first", () -> x.refinance(2, -1, 0));
     }
 
     private static void spendExtra() {
@@ -274,9 +274,9 @@ public final class ChangesTest {
         CHECK.due("P14 none open", x.spendExtra(1), 0);
         CHECK.due("P14 is a change all the same", x.undoCount(), 6);
         CHECK.due("P14 no entry", x.entryCount(), 6);
-        CHECK.argument("P14 0", x, () -> x.spendExtra(0));
-        CHECK.argument("P14 negative", x, () -> x.spendExtra(LOW));
-        CHECK.argument("P14 great", x, () -> x.spendExtra(10000000));
+        CHECK.argument("P14 0", () -> x.spendExtra(0));
+        CHECK.argument("P14 negative", () -> x.spendExtra(LOW));
+        CHECK.argument("P14 great", () -> x.spendExtra(10000000));
         LoanSchedule six = Check.with("loans;open 7 6 1;open 6 5 1;open 5 4 1;open 4 3 1;open 3 2 1;open 2 1 1;");
         CHECK.due("P14 six loans", six.spendExtra(100), 27);
         CHECK.due("P14 six entries", Check.book(six), " 5:2+0 4:3+0 3:4+0 2:5+0 1:6+0 0:7+0");

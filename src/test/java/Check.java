@@ -30,23 +30,16 @@ final class Check {
         due(label, got, want.getName());
     }
 
-    /** The call throws, and nothing that can be asked is another afterwards. */
-    void refusedUnchanged(String label, Class<?> want, LoanSchedule x, Call call) {
-        String before = state(x);
-        refused(label, want, call);
-        due(label + ": state behind it", state(x), before);
+    void index(String label, Call call) {
+        refused(label, IndexOutOfBoundsException.class, call);
     }
 
-    void index(String label, LoanSchedule x, Call call) {
-        refusedUnchanged(label, IndexOutOfBoundsException.class, x, call);
+    void argument(String label, Call call) {
+        refused(label, IllegalArgumentException.class, call);
     }
 
-    void argument(String label, LoanSchedule x, Call call) {
-        refusedUnchanged(label, IllegalArgumentException.class, x, call);
-    }
-
-    void impossible(String label, LoanSchedule x, Call call) {
-        refusedUnchanged(label, IllegalStateException.class, x, call);
+    void impossible(String label, Call call) {
+        refused(label, IllegalStateException.class, call);
     }
 
     void end() {

@@ -104,9 +104,9 @@ public final class LoansAndBookTest {
         for (int i = 0; i < NAMES.length; i++) {
             String name = NAMES[i];
             for (int loan : new int[] {-1, 3, 6, Integer.MAX_VALUE, Integer.MIN_VALUE}) {
-                CHECK.index("P" + (23 + i) + " " + name + "(" + loan + ")", x, () -> ask(x, name, loan));
+                CHECK.index("P" + (23 + i) + " " + name + "(" + loan + ")", () -> ask(x, name, loan));
             }
-            CHECK.index("P" + (23 + i) + " " + name + "(0) without loans", none, () -> ask(none, name, 0));
+            CHECK.index("P" + (23 + i) + " " + name + "(0) without loans", () -> ask(none, name, 0));
         }
     }
 
@@ -136,9 +136,12 @@ public final class LoansAndBookTest {
     }
 
     private static void bookRing() {
-        LoanSchedule x = Check.with("loans;open 1000 0 100;open 9999 3000 100;");
+        String loans = "loans;open 1000 0 100;open 9999 3000 100;";
         for (int i = 1; i <= 45; i++) {
-            x.payExtra(i % 2, i, true);
+            LoanSchedule x = Check.with(loans);
+            for (int payment = 1; payment <= i; payment++) {
+                x.payExtra(payment % 2, payment, true);
+            }
             int kept = Math.min(i, 20);
             CHECK.due("P36 behind " + i, x.entryCount(), kept);
             for (int back = 0; back < kept; back++) {
@@ -149,6 +152,7 @@ public final class LoansAndBookTest {
             CHECK.due("P37 not kept behind " + i, x.entryLoan(kept), -1);
             CHECK.due("P39 not kept behind " + i, x.entryInterest(kept), -1);
         }
+        LoanSchedule x = Check.with(loans);
         int interest = x.interestDue(1);
         x.payAll();
         CHECK.due("P39 of the second", x.entryInterest(0), interest);

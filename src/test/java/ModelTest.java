@@ -26,12 +26,16 @@ public final class ModelTest {
         "interestSoFar", "paidSoFar", "paidMonths", "skippedMonths"};
     private static final String[] OF_ENTRIES = {"entryLoan", "entryAmount", "entryInterest"};
 
+    /** Nothing is promised of an object after its 512th call; the comparison at the end takes 174 of them, a script up to 28. */
+    private static final int CALLS_OF_STEPS = 512 - 174 - 28 - 4;
+
     private static final Map<String, Method[]> METHODS = new TreeMap<>();
 
     private final Random random;
     private final LoanSchedule program = new LoanSchedule();
     private final Model model = new Model();
     private final List<String> log = new ArrayList<>();
+    private int calls = 0;
 
     private ModelTest(long seed) {
         random = new Random(seed);
@@ -43,7 +47,7 @@ public final class ModelTest {
                 METHODS.put(m.getName(), new Method[] {m, Model.class.getMethod(m.getName(), m.getParameterTypes())});
             }
         }
-        int runs = args.length > 0 ? Integer.parseInt(args[0]) : 150;
+        int runs = args.length > 0 ? Integer.parseInt(args[0]) : 1500;
         for (int seed = 0; seed < runs; seed++) {
             ModelTest test = new ModelTest(seed);
             String fault = test.run();
@@ -58,22 +62,20 @@ public final class ModelTest {
     }
 
     private String run() throws Exception {
-        String fault = compareState();
-        for (int i = 0; i < 60 && fault == null; i++) {
+        String fault = null;
+        while (calls < CALLS_OF_STEPS && fault == null) {
             int kind = random.nextInt(10);
-            if (kind < 2) {
-                fault = script();
-            } else if (kind < 7) {
-                fault = random(CHANGES);
-            }
-            for (int q = 0; q < 3 && fault == null; q++) {
-                fault = random(QUESTIONS);
-            }
-            if (fault == null) {
-                fault = compareState();
-            }
+            fault = kind < 2 ? script() : kind < 7 ? random(CHANGES) : null;
+            fault = fault == null ? random(QUESTIONS) : fault;
+            fault = fault == null ? compare(pick(ALWAYS)) : fault;
+            fault = fault == null ? compare(pick(OF_LOANS), random.nextInt(7)) : fault;
+            fault = fault == null ? compare(pick(OF_ENTRIES), oneIn(2) ? 0 : random.nextInt(22)) : fault;
         }
-        return fault;
+        return fault == null ? compareState() : fault;
+    }
+
+    private String pick(String[] names) {
+        return names[random.nextInt(names.length)];
     }
 
     private String random(String[] calls) throws Exception {
@@ -88,7 +90,7 @@ public final class ModelTest {
     private Object argument(char kind) {
         switch (kind) {
             case 'l':
-                return oneIn(12) ? edge() : random.nextInt(Math.max(1, program.loanCount()));
+                return oneIn(12) ? edge() : random.nextInt(Math.max(1, model.loanCount()));
             case 'a':
                 return oneIn(12) ? edge() : amount();
             case 'r':
@@ -107,11 +109,11 @@ public final class ModelTest {
     }
 
     private int amount() {
-        if (oneIn(3) && program.totalBalance() > 0) {
-            return Math.max(1, program.balance(random.nextInt(program.loanCount())) - random.nextInt(2));
+        if (oneIn(3) && model.totalBalance() > 0) {
+            return Math.max(1, model.balance(random.nextInt(model.loanCount())) - random.nextInt(2));
         }
-        if (oneIn(3) && program.totalDue() > 0) {
-            return Math.max(1, Math.min(9999999, program.totalDue() + random.nextInt(3) - 1));
+        if (oneIn(3) && model.totalDue() > 0) {
+            return Math.max(1, Math.min(9999999, model.totalDue() + random.nextInt(3) - 1));
         }
         int digits = 1 + random.nextInt(7);
         return 1 + random.nextInt((int) Math.pow(10, digits) - 1);
@@ -223,6 +225,7 @@ public final class ModelTest {
 
     private String compare(String name, Object... args) throws Exception {
         Method[] pair = METHODS.get(name);
+        calls++;
         String got = answer(pair[0], program, args);
         String want = answer(pair[1], model, args);
         String call = name + List.of(args) + " answered " + got;

@@ -46,14 +46,14 @@ public final class PredictionsTest {
         CHECK.due("P40 the first of 120", y.interestOfPayment(0, 1), 249999);
         CHECK.due("P40 the last of 120", y.interestOfPayment(0, 120) > 0, true);
         for (int n : new int[] {0, -1, 121, BIG, LOW}) {
-            CHECK.argument("P40 number " + n, x, () -> x.interestOfPayment(0, n));
-            CHECK.argument("P41 number " + n, x, () -> x.amountOfPayment(0, n));
-            CHECK.argument("P40 closed, number " + n, x, () -> x.interestOfPayment(1, n));
-            CHECK.index("P40 the index first " + n, x, () -> x.interestOfPayment(2, n));
-            CHECK.index("P41 the index first " + n, x, () -> x.amountOfPayment(-1, n));
+            CHECK.argument("P40 number " + n, () -> x.interestOfPayment(0, n));
+            CHECK.argument("P41 number " + n, () -> x.amountOfPayment(0, n));
+            CHECK.argument("P40 closed, number " + n, () -> x.interestOfPayment(1, n));
+            CHECK.index("P40 the index first " + n, () -> x.interestOfPayment(2, n));
+            CHECK.index("P41 the index first " + n, () -> x.amountOfPayment(-1, n));
         }
-        CHECK.index("P40 loan 2", x, () -> x.interestOfPayment(2, 1));
-        CHECK.index("P41 loan 2", x, () -> x.amountOfPayment(2, 1));
+        CHECK.index("P40 loan 2", () -> x.interestOfPayment(2, 1));
+        CHECK.index("P41 loan 2", () -> x.amountOfPayment(2, 1));
     }
 
     private static void paymentsTo() {
@@ -64,11 +64,11 @@ public final class PredictionsTest {
         }
         CHECK.due("P42 closed", x.paymentsTo(1, 0), 0);
         CHECK.due("P42 the longest", Check.with("loans;open 120 0 120;").paymentsTo(0, 0), 120);
-        CHECK.argument("P42 negative", x, () -> x.paymentsTo(0, -1));
-        CHECK.argument("P42 great", x, () -> x.paymentsTo(0, 10000000));
-        CHECK.argument("P42 closed, great", x, () -> x.paymentsTo(1, 10000000));
-        CHECK.index("P42 loan 2", x, () -> x.paymentsTo(2, 5));
-        CHECK.index("P42 the index first", x, () -> x.paymentsTo(-1, -1));
+        CHECK.argument("P42 negative", () -> x.paymentsTo(0, -1));
+        CHECK.argument("P42 great", () -> x.paymentsTo(0, 10000000));
+        CHECK.argument("P42 closed, great", () -> x.paymentsTo(1, 10000000));
+        CHECK.index("P42 loan 2", () -> x.paymentsTo(2, 5));
+        CHECK.index("P42 the index first", () -> x.paymentsTo(-1, -1));
     }
 
     private static void balanceAfter() {
@@ -79,11 +79,11 @@ public final class PredictionsTest {
         }
         CHECK.due("P43 after 120", x.balanceAfter(0, 120), 0);
         CHECK.due("P43 closed", x.balanceAfter(1, 0), 0);
-        CHECK.argument("P43 negative", x, () -> x.balanceAfter(0, -1));
-        CHECK.argument("P43 great", x, () -> x.balanceAfter(0, 121));
-        CHECK.argument("P43 closed, great", x, () -> x.balanceAfter(1, 121));
-        CHECK.index("P43 loan 2", x, () -> x.balanceAfter(2, 0));
-        CHECK.index("P43 the index first", x, () -> x.balanceAfter(2, -1));
+        CHECK.argument("P43 negative", () -> x.balanceAfter(0, -1));
+        CHECK.argument("P43 great", () -> x.balanceAfter(0, 121));
+        CHECK.argument("P43 closed, great", () -> x.balanceAfter(1, 121));
+        CHECK.index("P43 loan 2", () -> x.balanceAfter(2, 0));
+        CHECK.index("P43 the index first", () -> x.balanceAfter(2, -1));
     }
 
     private static void interestAheadAndLastDue() {
@@ -101,10 +101,10 @@ public final class PredictionsTest {
         CHECK.due("P44 without interest", y.interestAhead(0), 0);
         CHECK.due("P45 the rest", y.lastDue(0), 249);
         CHECK.due("P45 before the months end", y.lastDue(1), 1);
-        CHECK.index("P44 loan 2", x, () -> x.interestAhead(2));
-        CHECK.index("P44 loan -1", x, () -> x.interestAhead(-1));
-        CHECK.index("P45 loan 2", x, () -> x.lastDue(2));
-        CHECK.index("P45 loan -1", x, () -> x.lastDue(-1));
+        CHECK.index("P44 loan 2", () -> x.interestAhead(2));
+        CHECK.index("P44 loan -1", () -> x.interestAhead(-1));
+        CHECK.index("P45 loan 2", () -> x.lastDue(2));
+        CHECK.index("P45 loan -1", () -> x.lastDue(-1));
     }
 
     private static void monthsToHalf() {
@@ -118,8 +118,8 @@ public final class PredictionsTest {
         CHECK.due("P46 now", x.monthsToHalf(0), 0);
         x.payExtra(1, 50, true);
         CHECK.due("P46 51 of 101", x.monthsToHalf(1), 1);
-        CHECK.index("P46 loan 5", x, () -> x.monthsToHalf(5));
-        CHECK.index("P46 loan -1", x, () -> x.monthsToHalf(-1));
+        CHECK.index("P46 loan 5", () -> x.monthsToHalf(5));
+        CHECK.index("P46 loan -1", () -> x.monthsToHalf(-1));
     }
 
     private static void installmentFor() {
@@ -131,11 +131,11 @@ public final class PredictionsTest {
         CHECK.due("P47 120 months", x.installmentFor(2, 120), 10);
         CHECK.due("P47 119 months", x.installmentFor(2, 119), 11);
         for (int m : new int[] {0, -1, 121, BIG, LOW}) {
-            CHECK.argument("P47 months " + m, x, () -> x.installmentFor(0, m));
-            CHECK.argument("P47 closed, months " + m, x, () -> x.installmentFor(1, m));
-            CHECK.index("P47 the index first " + m, x, () -> x.installmentFor(3, m));
+            CHECK.argument("P47 months " + m, () -> x.installmentFor(0, m));
+            CHECK.argument("P47 closed, months " + m, () -> x.installmentFor(1, m));
+            CHECK.index("P47 the index first " + m, () -> x.installmentFor(3, m));
         }
-        CHECK.index("P47 loan 3", x, () -> x.installmentFor(3, 1));
+        CHECK.index("P47 loan 3", () -> x.installmentFor(3, 1));
     }
 
     private static void monthsFor() {
@@ -150,11 +150,11 @@ public final class PredictionsTest {
         CHECK.due("P48 less than the interest", x.monthsFor(3, 1), -1);
         CHECK.due("P48 closed", x.monthsFor(1, 1), 0);
         for (int a : new int[] {0, -1, 10000000, BIG, LOW}) {
-            CHECK.argument("P48 installment " + a, x, () -> x.monthsFor(0, a));
-            CHECK.argument("P48 closed, installment " + a, x, () -> x.monthsFor(1, a));
-            CHECK.index("P48 the index first " + a, x, () -> x.monthsFor(4, a));
+            CHECK.argument("P48 installment " + a, () -> x.monthsFor(0, a));
+            CHECK.argument("P48 closed, installment " + a, () -> x.monthsFor(1, a));
+            CHECK.index("P48 the index first " + a, () -> x.monthsFor(4, a));
         }
-        CHECK.index("P48 loan 4", x, () -> x.monthsFor(4, 1));
+        CHECK.index("P48 loan 4", () -> x.monthsFor(4, 1));
     }
 
     private static void savingOfExtra() {
@@ -175,11 +175,11 @@ public final class PredictionsTest {
         CHECK.due("P49 closed", x.savingOfExtra(1, 1, true), 0);
         CHECK.due("P49 without interest", x.savingOfExtra(2, 100, true), 0);
         for (int a : new int[] {0, -1, 10000000, BIG, LOW}) {
-            CHECK.argument("P49 amount " + a, x, () -> x.savingOfExtra(0, a, true));
-            CHECK.argument("P49 closed, amount " + a, x, () -> x.savingOfExtra(1, a, false));
-            CHECK.index("P49 the index first " + a, x, () -> x.savingOfExtra(3, a, false));
+            CHECK.argument("P49 amount " + a, () -> x.savingOfExtra(0, a, true));
+            CHECK.argument("P49 closed, amount " + a, () -> x.savingOfExtra(1, a, false));
+            CHECK.index("P49 the index first " + a, () -> x.savingOfExtra(3, a, false));
         }
-        CHECK.index("P49 loan 3", x, () -> x.savingOfExtra(3, 1, false));
+        CHECK.index("P49 loan 3", () -> x.savingOfExtra(3, 1, false));
     }
 
     private static void interestIfRate() {
@@ -194,11 +194,11 @@ public final class PredictionsTest {
         }
         CHECK.due("P50 closed", x.interestIfRate(1, 3000), 0);
         for (int r : new int[] {-1, 3001, BIG, LOW}) {
-            CHECK.argument("P50 rate " + r, x, () -> x.interestIfRate(0, r));
-            CHECK.argument("P50 closed, rate " + r, x, () -> x.interestIfRate(1, r));
-            CHECK.index("P50 the index first " + r, x, () -> x.interestIfRate(2, r));
+            CHECK.argument("P50 rate " + r, () -> x.interestIfRate(0, r));
+            CHECK.argument("P50 closed, rate " + r, () -> x.interestIfRate(1, r));
+            CHECK.index("P50 the index first " + r, () -> x.interestIfRate(2, r));
         }
-        CHECK.index("P50 loan 2", x, () -> x.interestIfRate(2, 1));
+        CHECK.index("P50 loan 2", () -> x.interestIfRate(2, 1));
     }
 
     private static void isCheaper() {
@@ -217,13 +217,13 @@ public final class PredictionsTest {
             x.undo();
             CHECK.due("P51 400 for " + term, x.isCheaper(0, 400, term), less);
         }
-        CHECK.argument("P51 rate -1", x, () -> x.isCheaper(0, -1, 1));
-        CHECK.argument("P51 rate 3001", x, () -> x.isCheaper(0, 3001, 1));
-        CHECK.argument("P51 months 0", x, () -> x.isCheaper(0, 1, 0));
-        CHECK.argument("P51 months 121", x, () -> x.isCheaper(0, 1, 121));
-        CHECK.argument("P51 closed, months 121", x, () -> x.isCheaper(1, 1, 121));
-        CHECK.index("P51 loan 2", x, () -> x.isCheaper(2, 1, 1));
-        CHECK.index("P51 the index first", x, () -> x.isCheaper(2, -1, 0));
+        CHECK.argument("P51 rate -1", () -> x.isCheaper(0, -1, 1));
+        CHECK.argument("P51 rate 3001", () -> x.isCheaper(0, 3001, 1));
+        CHECK.argument("P51 months 0", () -> x.isCheaper(0, 1, 0));
+        CHECK.argument("P51 months 121", () -> x.isCheaper(0, 1, 121));
+        CHECK.argument("P51 closed, months 121", () -> x.isCheaper(1, 1, 121));
+        CHECK.index("P51 loan 2", () -> x.isCheaper(2, 1, 1));
+        CHECK.index("P51 the index first", () -> x.isCheaper(2, -1, 0));
     }
 
     private static void skipsWithin() {
@@ -249,11 +249,11 @@ public final class PredictionsTest {
         CHECK.due("P52 as the balance allows", x.skipsWithin(3, 9999999), 1);
         CHECK.due("P52 below the first", x.skipsWithin(0, 1), 0);
         for (int a : new int[] {0, -1, 10000000, BIG, LOW}) {
-            CHECK.argument("P52 amount " + a, x, () -> x.skipsWithin(0, a));
-            CHECK.argument("P52 closed, amount " + a, x, () -> x.skipsWithin(1, a));
-            CHECK.index("P52 the index first " + a, x, () -> x.skipsWithin(4, a));
+            CHECK.argument("P52 amount " + a, () -> x.skipsWithin(0, a));
+            CHECK.argument("P52 closed, amount " + a, () -> x.skipsWithin(1, a));
+            CHECK.index("P52 the index first " + a, () -> x.skipsWithin(4, a));
         }
-        CHECK.index("P52 loan 4", x, () -> x.skipsWithin(4, 1));
+        CHECK.index("P52 loan 4", () -> x.skipsWithin(4, 1));
     }
 
     private static void totals() {
@@ -329,10 +329,9 @@ public final class PredictionsTest {
     private static void budgetOrder() {
         // 1 is the dearest and 2 as dear, 0 the smallest and 3 as small
         String loans = "loans;open 3000 300 10;open 60000 2400 24;open 50000 2400 24;open 3000 0 10;";
-        LoanSchedule x = Check.with(loans);
         for (boolean byRate : new boolean[] {true, false}) {
             for (int budget : new int[] {7000, 20000, 100000, 150000}) {
-                Check.run(x, loans);
+                LoanSchedule x = Check.with(loans);
                 int months = x.budgetMonths(budget, byRate);
                 int interest = x.budgetInterest(budget, byRate);
                 int before = interestSum(x);
@@ -341,7 +340,7 @@ public final class PredictionsTest {
                 CHECK.due("P60 " + budget + " " + byRate, interest, interestSum(x) - before);
             }
         }
-        Check.run(x, loans);
+        LoanSchedule x = Check.with(loans);
         CHECK.due("P60 by rate is cheaper", x.budgetInterest(7000, true) < x.budgetInterest(7000, false), true);
         LoanSchedule y = Check.with("loans;open 100 0 5;pay 0;open 5 0 1;pay 1;");
         CHECK.due("P59 with a closed loan", y.budgetMonths(40, false), 2);
@@ -378,8 +377,8 @@ public final class PredictionsTest {
     private static void budgetWrong() {
         LoanSchedule x = new LoanSchedule();
         for (int b : new int[] {0, -1, 10000000, BIG, LOW}) {
-            CHECK.argument("P59 budget " + b, x, () -> x.budgetMonths(b, true));
-            CHECK.argument("P60 budget " + b, x, () -> x.budgetInterest(b, false));
+            CHECK.argument("P59 budget " + b, () -> x.budgetMonths(b, true));
+            CHECK.argument("P60 budget " + b, () -> x.budgetInterest(b, false));
         }
         CHECK.due("P59 the greatest budget", x.budgetMonths(9999999, true), 1);
         LoanSchedule y = Check.with("loans;open 9999999 3000 1;open 9999999 3000 1;");

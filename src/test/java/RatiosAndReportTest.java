@@ -71,9 +71,9 @@ public final class RatiosAndReportTest {
         CHECK.due("P64 twelve of 13", report(x, 3), "10 10 10 10 10 10 10 10 10 10 10 10");
         CHECK.due("P64 just twelve", report(x, 4), "10 10 10 10 10 10 10 10 10 10 10 10!");
         CHECK.due("P64 its length", x.writeSchedule(0), 19);
-        CHECK.index("P64 loan 5", x, () -> x.writeSchedule(5));
-        CHECK.index("P64 loan -1", x, () -> x.writeSchedule(-1));
-        CHECK.index("P64 greatest", x, () -> x.writeSchedule(Integer.MAX_VALUE));
+        CHECK.index("P64 loan 5", () -> x.writeSchedule(5));
+        CHECK.index("P64 loan -1", () -> x.writeSchedule(-1));
+        CHECK.index("P64 greatest", () -> x.writeSchedule(Integer.MAX_VALUE));
         String before = Check.plan(x);
         x.writeSchedule(0);
         CHECK.due("P64 changes no loan", Check.plan(x), before);

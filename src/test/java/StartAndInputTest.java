@@ -59,15 +59,15 @@ public final class StartAndInputTest {
     private static void truncateInput() {
         LoanSchedule x = new LoanSchedule();
         CHECK.due("P3 empty", x.truncateInput(0), 0);
-        CHECK.argument("P3 beyond empty", x, () -> x.truncateInput(1));
+        CHECK.argument("P3 beyond empty", () -> x.truncateInput(1));
         x.append(0x6c6f616e, 0x733b6f70, 0x656e2037, 0x20302031, 0x3b787878);
-        CHECK.argument("P3 beyond", x, () -> x.truncateInput(21));
-        CHECK.argument("P3 far beyond", x, () -> x.truncateInput(Integer.MAX_VALUE));
-        CHECK.argument("P3 negative", x, () -> x.truncateInput(-1));
-        CHECK.argument("P3 most negative", x, () -> x.truncateInput(Integer.MIN_VALUE));
+        CHECK.argument("P3 beyond", () -> x.truncateInput(21));
+        CHECK.argument("P3 far beyond", () -> x.truncateInput(Integer.MAX_VALUE));
+        CHECK.argument("P3 negative", () -> x.truncateInput(-1));
+        CHECK.argument("P3 most negative", () -> x.truncateInput(Integer.MIN_VALUE));
         CHECK.due("P3 same", x.truncateInput(20), 20);
         CHECK.due("P3 shorter", x.truncateInput(17), 17);
-        CHECK.argument("P3 not longer again", x, () -> x.truncateInput(18));
+        CHECK.argument("P3 not longer again", () -> x.truncateInput(18));
         CHECK.due("P3 what is left", x.runScript(), 1);
         CHECK.due("P3 its loan", x.principal(0), 7);
     }
