@@ -472,6 +472,8 @@ final class EdgesOfChanges {
         for (int[] d : due) {
             edges.due("of " + d[0], Check.with(loans).spendExtra(d[0]), d[1]);
         }
+        String six = "loans;open 7 6 1;open 6 5 1;open 5 4 1;open 4 3 1;open 3 2 1;open 2 1 1;";
+        edges.due("six loans", Check.with(six).spendExtra(26) + " " + Check.with(six).spendExtra(27) + " " + Check.with(six).spendExtra(28), "26 27 27");
         edges.due("no loans", Check.with("loans;").spendExtra(9999999), 0);
         edges.due("all closed", Check.with("loans;open 5 0 1;pay 0;").spendExtra(1), 0);
         edges.due("two of the greatest", Check.with("loans;open 9999999 0 1;open 9999999 1 1;").spendExtra(9999999), 9999999);

@@ -387,6 +387,9 @@ final class EdgesOfPredictions {
             x.skipMonth(1);
             edges.due("behind " + i, x.skipsWithin(1, 9999999), 6 - i);
         }
+        // the installment now is 25, kept by an extra payment; calculated anew it is 20
+        LoanSchedule kept = Check.with("loans;open 100 0 4;extra 0 40;");
+        edges.due("an installment that becomes less", kept.installment(0) + " " + kept.skipsWithin(0, 20) + " " + kept.skipsWithin(0, 19), "25 6 0");
         LoanSchedule y = Check.with("loans;open 9999999 0 1;open 9999998 0 1;");
         edges.due("just as much", y.skipsWithin(0, 9999999) + " " + y.skipsWithin(0, 9999998) + " " + y.skipsWithin(1, 9999998), "6 0 6");
     }
@@ -449,7 +452,7 @@ final class EdgesOfPredictions {
     // ---- the budget
 
     /** The budget spent by calls of changes; the months and the interest. */
-    private static String spent(LoanSchedule x, int budget, boolean byRate) {
+    static String spent(LoanSchedule x, int budget, boolean byRate) {
         int months = 0;
         int before = sumOfInterest(x);
         while (x.openCount() > 0) {
@@ -531,6 +534,12 @@ final class EdgesOfPredictions {
             edges.due("all closed", Check.with("loans;open 1000 1300 1;pay 0;").budgetInterest(1, byRate), 0);
             edges.due("more than any budget", Check.with("loans;open 9999999 3000 1;").budgetInterest(9999999, byRate), -1);
             edges.due("no rate", Check.with("loans;open 120 0 120;").budgetInterest(1, byRate), 0);
+            String six = "loans;repeat 6(open 12000 600 9;);repeat 6(skip 5;);";
+            LoanSchedule y = Check.with(six);
+            int told = y.budgetInterest(9000, byRate);
+            edges.due("six loans", y.budgetMonths(9000, byRate) + " " + told, spent(Check.with(six), 9000, byRate));
+            Check.run(y, "loans;open 1000 1300 3;");
+            edges.due("one loan where six were", y.budgetInterest(341, byRate), 21);
         }
     }
 }

@@ -61,6 +61,9 @@ final class EdgesOfScripts {
         for (String text : bad) {
             edges.bad(text, 1);
         }
+        for (int i = 0; i < 5; i++) {
+            edges.bad("^" + "loans".substring(0, i) + "x" + "loans".substring(i + 1) + ";", 1);
+        }
     }
 
     private void commands() {
@@ -71,6 +74,7 @@ final class EdgesOfScripts {
         }
         String[] bad = {"^keep;", "all ^0;", "all ^keep;", "pay^;", "pay 0 ^0;", "pay 0 ^keep;", "pay ^all;", "extra^;", "extra 0^;", "extra 0 ^keep;",
             "extra ^keep;", "extra 0 1 keep ^keep;", "extra 0 1 ^1;", "extra 0 1 keep ^1;", "extra 0 1 ^all;", "extra 0 1 ^kee;", "extra 0 1 ^keeps;",
+            "extra 0 1 ^xeep;", "extra 0 1 ^kxep;", "extra 0 1 ^kexp;", "extra 0 1 ^keex;",
             "skip^;", "skip 0 ^1;", "rate^;", "rate 0^;", "rate 0 1 ^1;", "extend^;", "extend 0^;", "extend 0 1 ^1;", "open^;", "open 5^;", "open 5 0^;",
             "open 5 0 1 ^1;", "repeat^;", "repeat ^(all;);", "repeat 2^;", "repeat 2 ^all;", "repeat 2 ^);", "repeat 2(^;);", "repeat 2(all^);",
             "repeat 2(all;)^", "repeat 2(all;)^all;", "repeat 2(all;)^);", "repeat 2(all;);^);", "repeat 2(^(all;););", "repeat 2(all;^", "^(all;);",
@@ -83,6 +87,9 @@ final class EdgesOfScripts {
             edges.bad("loans;^" + word.substring(1) + " 0;", 1);
             edges.bad("loans;^" + word.substring(0, word.length() - 1) + " 0;", 1);
             edges.bad("loans;^" + word + "s 0;", 1);
+            for (int i = 0; i < word.length(); i++) {
+                edges.bad("loans;^" + word.substring(0, i) + "z" + word.substring(i + 1) + " 0;", 1);
+            }
             edges.bad("loans;^" + word.substring(0, 1).toUpperCase() + word.substring(1) + " 0;", 1);
         }
     }

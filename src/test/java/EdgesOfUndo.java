@@ -15,6 +15,7 @@ final class EdgesOfUndo {
         edges.sentence(0, "Each call of a change that does not throw an exception, and each successful script, can be undone, the latest one "
             + "first; the planner remembers the latest 8.", this::latestEight);
         edges.sentence(0, "Undoing restores everything except the input buffer, the script error, the report and the snapshot.", this::theRestStays);
+        edges.sentence(0, "Undoing restores everything", this::wholeBook);
         edges.sentence(15, "Undoes the latest change that has not been undone.", this::latestNotUndone);
         edges.sentence(15, "Returns the number of changes that can still be undone, or NONE if there was nothing to undo.", this::undo);
         edges.sentence(16, "Returns the number of changes that can be undone.", this::undoCount);
@@ -115,6 +116,30 @@ final class EdgesOfUndo {
             edges.due("input behind " + NAMES[i], x.inputLength() + " " + x.runScript() + " " + x.principal(0), "17 1 9");
             x.restoreSnapshot();
             edges.due("snapshot behind " + NAMES[i], Check.plan(x), saved);
+        }
+    }
+
+    /** A full book, from each place on in its ring: undone, and restored by a snapshot. */
+    private void wholeBook() {
+        for (int count = 20; count < 40; count += 4) {
+            LoanSchedule x = Check.with("loans;open 9999999 3000 120;");
+            for (int i = 0; i < count; i++) {
+                x.pay(0);
+            }
+            x.saveSnapshot();
+            String book = Check.book(x);
+            for (int i = 0; i < 8; i++) {
+                x.payExtra(0, 1 + i, false);
+            }
+            for (int i = 0; i < 8; i++) {
+                x.undo();
+            }
+            edges.due("undone, " + count, Check.book(x), book);
+            for (int i = 0; i < 20; i++) {
+                x.payExtra(0, 1 + i, false);
+            }
+            x.restoreSnapshot();
+            edges.due("restored, " + count, Check.book(x), book);
         }
     }
 

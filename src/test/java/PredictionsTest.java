@@ -334,10 +334,8 @@ public final class PredictionsTest {
                 LoanSchedule x = Check.with(loans);
                 int months = x.budgetMonths(budget, byRate);
                 int interest = x.budgetInterest(budget, byRate);
-                int before = interestSum(x);
-                int played = play(x, budget, byRate);
-                CHECK.due("P59 " + budget + " " + byRate, months, played);
-                CHECK.due("P60 " + budget + " " + byRate, interest, interestSum(x) - before);
+                String played = EdgesOfPredictions.spent(x, budget, byRate);
+                CHECK.due("P59 and P60 " + budget + " " + byRate, months + " " + interest, played);
             }
         }
         LoanSchedule x = Check.with(loans);
@@ -348,30 +346,6 @@ public final class PredictionsTest {
         CHECK.due("P60 all closed", Check.with("loans;open 5 0 1;pay 0;").budgetInterest(1, true), 0);
         CHECK.due("P59 no loans", Check.with("loans;").budgetMonths(1, false), 0);
         CHECK.due("P60 no loans", Check.with("loans;").budgetInterest(1, false), 0);
-    }
-
-    private static int interestSum(LoanSchedule x) {
-        int sum = 0;
-        for (int i = 0; i < x.loanCount(); i++) {
-            sum += x.interestSoFar(i);
-        }
-        return sum;
-    }
-
-    /** The budget spent by calls of changes. */
-    private static int play(LoanSchedule x, int budget, boolean byRate) {
-        int months = 0;
-        while (x.openCount() > 0) {
-            int rest = budget - x.payAll();
-            while (rest > 0 && x.openCount() > 0) {
-                int loan = byRate ? x.dearestLoan() : x.smallestLoan();
-                int part = Math.min(rest, x.balance(loan));
-                x.payExtra(loan, part, false);
-                rest -= part;
-            }
-            months++;
-        }
-        return months;
     }
 
     private static void budgetWrong() {
